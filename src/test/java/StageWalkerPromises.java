@@ -52,15 +52,21 @@ public final class StageWalkerPromises {
         due("entry()", x.entry(), entry);
     }
 
-    /** One word, the four behind it kept (poke writes five). */
+    // The words of the newest object: put keeps an object's calls far below the 512 that are promised.
+    private static int[] image = new int[65536];
+
+    private static StageWalker fresh() {
+        image = new int[65536];
+        return new StageWalker();
+    }
+
+    /** One word of the newest object, the four behind it kept (poke writes five). */
     private static void put(StageWalker x, int address, int word) {
         int from = Math.min(address, 262124);
-        int[] five = new int[5];
-        for (int i = 0; i < 5; i++) {
-            five[i] = x.word(from + 4 * i);
-        }
-        five[(address - from) / 4] = word;
-        due("poke(" + from + ", ..)", x.poke(from, five[0], five[1], five[2], five[3], five[4]), from + 20);
+        int i = from / 4;
+        image[address / 4] = word;
+        int behind = x.poke(from, image[i], image[i + 1], image[i + 2], image[i + 3], image[i + 4]);
+        due("poke(" + from + ", ..)", behind, from + 20);
     }
 
     private static int at(int frame, int index) {
@@ -82,7 +88,7 @@ public final class StageWalkerPromises {
 
     /** U and S with tables: address 0 .. 4 MiB - 1 by FIRST_TABLE. */
     private static StageWalker withAtp() {
-        StageWalker x = new StageWalker();
+        StageWalker x = fresh();
         put(x, at(FIRST_ROOT, 0), to(FIRST_TABLE, V));
         x.roots(ON | FIRST_ROOT, 0, 0);
         return x;
@@ -90,7 +96,7 @@ public final class StageWalkerPromises {
 
     /** VU and VS by VS ATP and HGATP; the second stage leads each of its first 64 pages to itself. */
     private static StageWalker withBoth() {
-        StageWalker x = new StageWalker();
+        StageWalker x = fresh();
         put(x, at(FIRST_ROOT, 0), to(FIRST_TABLE, V));
         put(x, at(SECOND_ROOT, 0), to(SECOND_TABLE, V));
         for (int page = 0; page < 64; page++) {
@@ -100,14 +106,20 @@ public final class StageWalkerPromises {
         return x;
     }
 
-    private static void newObject() {
-        part = "promise 1";
-        StageWalker x = new StageWalker();
-        due("BAD", StageWalker.BAD, -1);
-        dueLatest(x, -1, 0, false);
-        for (int address = 0; address < 262144; address += 4) {
+    /** Some 260 words, the first and last and those of all frames among them. */
+    private static void dueAllZero(StageWalker x) {
+        for (int address = 0; address < 262140; address += 1028) {
             due("word(" + address + ")", x.word(address), 0);
         }
+        due("word(262140)", x.word(262140), 0);
+    }
+
+    private static void newObject() {
+        part = "promise 1";
+        StageWalker x = fresh();
+        due("BAD", StageWalker.BAD, -1);
+        dueLatest(x, -1, 0, false);
+        dueAllZero(x);
         due("rights(0)", x.rights(0), 0);
         for (int mode = 0; mode < 4; mode++) {
             dueAtPlace(x, mode, LOAD, 4660 + mode, 4660 + mode);
@@ -129,8 +141,9 @@ public final class StageWalkerPromises {
         x.begin();
         dueLatest(x, -1, 0, false);
         due("rights(0)", x.rights(0), 0);
-        for (int address = 0; address < 262144; address += 4) {
-            due("word(" + address + ")", x.word(address), 0);
+        dueAllZero(x);
+        for (int page = 0; page < 64; page++) {
+            due("word in the table", x.word(at(SECOND_TABLE, page)), 0);
         }
         for (int mode = 0; mode < 4; mode++) {
             dueAtPlace(x, mode, STORE, 8, 8);
@@ -141,7 +154,7 @@ public final class StageWalkerPromises {
 
     private static void poke() {
         part = "promise 3";
-        StageWalker x = new StageWalker();
+        StageWalker x = fresh();
         due("poke(0, ..)", x.poke(0, 1, -2, 3, Integer.MIN_VALUE, 5), 20);
         int[] want = {1, -2, 3, Integer.MIN_VALUE, 5, 0};
         for (int i = 0; i < want.length; i++) {
@@ -159,8 +172,12 @@ public final class StageWalkerPromises {
         for (int address : bad) {
             due("poke(" + address + ", ..)", x.poke(address, 99, 99, 99, 99, 99), -1);
         }
-        for (int address = 0; address < 262144; address += 4) {
-            due("99 at " + address, x.word(address) == 99, false);
+        int[] kept = {1, -2, 10, 20, 30, 40, 50, 0, 0, 0};
+        for (int i = 0; i < kept.length; i++) {
+            due("word(" + 4 * i + ")", x.word(4 * i), kept[i]);
+        }
+        for (int i = 0; i < 6; i++) {
+            due("word(" + (262120 + 4 * i) + ")", x.word(262120 + 4 * i), i);
         }
         dueAtPlace(x, MODE_S, LOAD, 5, 5);
         x.poke(40, 1, 1, 1, 1, 1);
@@ -170,7 +187,7 @@ public final class StageWalkerPromises {
 
     private static void word() {
         part = "promise 4";
-        StageWalker x = new StageWalker();
+        StageWalker x = fresh();
         x.poke(0, -1, -1, -1, -1, -1);
         x.poke(262124, -1, -1, -1, -1, -7);
         due("word(0)", x.word(0), -1);
@@ -214,7 +231,7 @@ public final class StageWalkerPromises {
 
     private static void rights() {
         part = "promise 6";
-        StageWalker x = new StageWalker();
+        StageWalker x = fresh();
         dueAtPlace(x, MODE_S, LOAD, 5, 5);
         int[] bits = {0, 5, 10, 15, 16, -1, 0x7FFFFFF3, Integer.MIN_VALUE, 8, 0};
         int before = 0;
@@ -227,7 +244,7 @@ public final class StageWalkerPromises {
 
     private static void noTables() {
         part = "promise 7, no tables";
-        StageWalker x = new StageWalker();
+        StageWalker x = fresh();
         int[] noMemory = {1, 5, 7, 5};
         for (int mode = 0; mode < 4; mode++) {
             for (int kind = 0; kind < (mode < 2 ? 3 : 4); kind++) {
@@ -557,7 +574,7 @@ public final class StageWalkerPromises {
 
     private static void pages() {
         part = "promise 11";
-        StageWalker x = new StageWalker();
+        StageWalker x = fresh();
         due("pages(0, 0, 0, 1)", x.pages(0, 0, 0, 1), 1);
         due("pages(3, 3, 0, 1024)", x.pages(3, 3, 0, 1024), 64);
         due("pages(1, 2, 4095, 64)", x.pages(1, 2, 4095, 64), 64);
